@@ -11,7 +11,7 @@ public final class PollAudit {
     private static final int MOST_BATCHES = 64, MOST_IN_BATCH = 4000, MOST_BALLOTS = 20000;
     private static final int MOST_CAP = 200, MOST_TERM = 1000000, MOST_DIGITS = 20;
     private static final int MOST_COINS = 4000, MOST_AT_ONCE = 32, MOST_COINS_A_DRAW = 15;
-    private static final int MOST_RISK_DRAWS = 30, DIGEST_BYTES = 32;
+    private static final int MOST_RISK_DRAWS = 30, NEVER = MOST_RISK_DRAWS + 1, DIGEST_BYTES = 32;
 
     // A draw makes T at most 16 bits longer, and P 51: a cap of 200 draws keeps them in these many limbs.
     private static final int T_ROOM = 104, P_ROOM = 328;
@@ -143,9 +143,7 @@ public final class PollAudit {
             throw new IllegalStateException("what is set does not do for an audit");
         }
         setup.markWinners();
-        log.empty();
         tests.begin(setup);
-        fullCount.empty();
         byComparing = comparing;
         bySeed = seeded;
         stage = DRAWING;
@@ -254,7 +252,9 @@ public final class PollAudit {
 
     public int digest(int n, int i) throws IndexOutOfBoundsException, IllegalArgumentException {
         needIndex(i, DIGEST_BYTES);
-        needNumber(n, 1, Integer.MAX_VALUE);
+        if (n < 1) {
+            throw new IllegalArgumentException("draws have numbers from 1 on");
+        }
         seed.hashWith(n);
         return seed.byteOfHash(i);
     }
@@ -829,8 +829,6 @@ public final class PollAudit {
      * first; draws of others, which move nothing, are then spread among them.
      */
     private static final class Odds {
-        private static final int NEVER = MOST_RISK_DRAWS + 1;
-
         // With so many draws for the loser, how few for the winner make the pair sure.
         final int[] least = new int[MOST_RISK_DRAWS + 1];
         // Of the rows that are not sure yet, how many have so many draws for the winner.
