@@ -4,6 +4,7 @@ import java.util.concurrent.Callable;
 final class Check {
     private static int calls = 0;
     private static int wrong = 0;
+    private static String sentence = "";
 
     /** A call that answers nothing. */
     interface Step {
@@ -11,6 +12,11 @@ final class Check {
     }
 
     private Check() {
+    }
+
+    /** The sentence of the document that the next answers are held against. */
+    static void about(String words) {
+        sentence = words;
     }
 
     static String answer(Callable<Object> call) {
@@ -57,7 +63,8 @@ final class Check {
         if (!want.equals(got)) {
             wrong++;
             if (wrong <= 40) {
-                System.out.println(name + " answered " + got + ", due is " + want);
+                System.out.println((sentence.isEmpty() ? "" : "[" + sentence + "] ")
+                    + name + " answered " + got + ", due is " + want);
             }
         }
     }

@@ -311,6 +311,10 @@ final class Model {
         return shown.compareTo(Ratio.of(1, 1)) >= 0;
     }
 
+    String shownAs() {
+        return shown.up + "/" + shown.low;
+    }
+
     int size(int part) {
         none(part < 0 || part > 1);
         return ((part == 0 ? shown.up : shown.low).bitLength() + 31) / 32;

@@ -264,7 +264,11 @@ final class ModelTest {
         }
     }
 
+    /** What an object answers behind its 512th call is free, so none is made. */
     private void same(String call, java.util.concurrent.Callable<Object> got, java.util.concurrent.Callable<Object> want) {
+        if (calls >= CALLS) {
+            return;
+        }
         calls++;
         Check.same("run " + run + ", call " + calls + ", " + call, Check.answer(want), Check.answer(got));
     }
