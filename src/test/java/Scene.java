@@ -160,7 +160,7 @@ final class Scene {
     static void shows(PollAudit x, int what, int k, long up, long low) {
         String name = "show(" + what + ", " + k + ")";
         Check.due(name, up >= low, () -> x.show(what, k));
-        Check.due(name + ", what is shown", up + "/" + low, () -> part(x, 0) + "/" + part(x, 1));
+        isShown(name, x, up, low);
     }
 
     static void isShown(String name, PollAudit x, BigInteger up, BigInteger low) {

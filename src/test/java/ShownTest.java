@@ -175,7 +175,7 @@ final class ShownTest {
     private static void odds(PollAudit x, int above, int n, int a, int b, int z, long up, long low) {
         String name = "risk of " + n + " draws by " + a + ", " + b + " of " + z;
         Check.due(name, above, () -> x.risk(0, n, a, b, z));
-        Check.due(name + ", what is shown", up + "/" + low, () -> Scene.part(x, 0) + "/" + Scene.part(x, 1));
+        Scene.isShown(name, x, up, low);
     }
 
     private static void riskAndTheLimit() {
@@ -262,6 +262,8 @@ final class ShownTest {
                     for (int n : new int[] {1, 29, 30}) {
                         Check.due("risk", model.risk(0, n, s[0], s[1], s[2]), () -> x.risk(0, n, s[0], s[1], s[2]));
                         Check.same("odds", model.shownAs(), Scene.part(x, 0) + "/" + Scene.part(x, 1));
+                        Check.due("size above", model.size(0), () -> x.size(0));
+                        Check.due("size below", model.size(1), () -> x.size(1));
                     }
                 }
             }
